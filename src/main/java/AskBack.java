@@ -839,12 +839,21 @@ public final class AskBack {
             script = into;
             script.clear();
             goCount = 0;
-            for (int part = 0; part < MOST_TEXT && kind() != END; part++) {
-                if (!readPart()) {
-                    return false;
+            boolean good = true;
+            for (int part = 0; part < MOST_TEXT && good && kind() != END; part++) {
+                if (isThe(TURN)) {
+                    good = readTurn();
+                } else if (isThe(KEY_WORD)) {
+                    good = readKey();
+                } else if (isThe(WHEN) || isThe(KEEP)) {
+                    good = readRule(isThe(KEEP));
+                } else if (isThe(NONE_WORD)) {
+                    good = readNone();
+                } else {
+                    good = misplaced();
                 }
             }
-            return findGoes();
+            return good && findGoes();
         }
 
         private void open(byte[] text, int length) {
@@ -960,22 +969,6 @@ public final class AskBack {
 
         private boolean misplaced() {
             return fail(kind() == BAD ? 1 : 2);
-        }
-
-        private boolean readPart() {
-            if (isThe(TURN)) {
-                return readTurn();
-            }
-            if (isThe(KEY_WORD)) {
-                return readKey();
-            }
-            if (isThe(WHEN) || isThe(KEEP)) {
-                return readRule(isThe(KEEP));
-            }
-            if (isThe(NONE_WORD)) {
-                return readNone();
-            }
-            return misplaced();
         }
 
         private boolean readEnd() {
@@ -1561,6 +1554,7 @@ public final class AskBack {
             words.clear();
             tell(NOTHING, NONE, NONE);
             told[GOES] = 0;
+            remember(order, count);
             follow(firstRule(order, count), false);
             if (told[KIND] == NOTHING) {
                 follow(sayElse(), true);
@@ -1574,30 +1568,37 @@ public final class AskBack {
             told[ANSWER] = answer;
         }
 
-        /** Key by key the first when that fits; what is to be kept of the first key is kept ahead of it. */
-        private int firstRule(int[] order, int count) {
-            boolean first = true;
-            int rule = NONE;
-            for (int i = 0; i < count && i < order.length && rule == NONE; i++) {
-                int key = order[i];
-                if ((ear.present >>> key & 1) != 0) {
-                    if (first) {
-                        remember(key);
-                    }
-                    first = false;
-                    rule = firstWhen(key);
-                }
-            }
-            return rule;
-        }
-
-        private void remember(int key) {
+        /** Of the first key alone each keep that fits. */
+        private void remember(int[] order, int count) {
             int keeps = fitting & script.keepSet;
+            int first = 0;
+            while (first < count && first < order.length && !isPresent(order[first])) {
+                first++;
+            }
+            if (keeps == 0 || first >= count || first >= order.length) {
+                return;
+            }
+            int key = order[first];
             for (int rule = script.keyStarts[key]; rule < script.keyEnds[key]; rule++) {
                 if ((keeps >>> rule & 1) != 0) {
                     fill(state.rowBehind(), rule, rule * MOST_ANSWERS);
                 }
             }
+        }
+
+        /** Key by key the first when that fits. */
+        private int firstRule(int[] order, int count) {
+            int rule = NONE;
+            for (int i = 0; i < count && i < order.length && rule == NONE; i++) {
+                if (isPresent(order[i])) {
+                    rule = firstWhen(order[i]);
+                }
+            }
+            return rule;
+        }
+
+        private boolean isPresent(int key) {
+            return (ear.present >>> key & 1) != 0;
         }
 
         private int firstWhen(int key) {

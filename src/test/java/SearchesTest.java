@@ -8,6 +8,7 @@ public final class SearchesTest {
         wrongLeads();
         rings();
         ringAtTheEnd();
+        ringBeyondTheEnd();
         ringOfMemory();
         couples();
         mends();
@@ -41,6 +42,10 @@ public final class SearchesTest {
         CHECK.refused(x, "in six", x.lead(0, 0, 2, 3), 6);
         Check.script(x, 0, "key a rank 1; when a say p or go c; key c rank 0; when a say c or o;");
         lead(x, 3, 1, 1, 1, 1);
+        // to z it says n, n, n, n by b and c, and then o: five is the most
+        Check.script(x, 0, "key z rank 1; when z say go b or go c or n; key b rank 0; when z say n or go c;"
+                + " key c rank 0; when z say n or n or o;");
+        lead(x, 3, 0, 0, 0, 0, 0);
     }
 
     /** Leads over the first three numbers of tray 0. */
@@ -141,6 +146,18 @@ public final class SearchesTest {
         ring(x, -1, -1);
         CHECK.due(x, "two empty ones, at most 4", x.face(0, 1, hi, 4), 3, 0);
         ring(x, 1, 2);
+    }
+
+    /** Turns of 4, 16 and 64 sayings against turns of 3: 384 sayings till both are as they were. */
+    private static void ringBeyondTheEnd() {
+        AskBack x = new AskBack();
+        int hi = Check.line(x, "hi");
+        Check.script(x, 0, "none go p or a or b or c; key p rank 1; when * say go q or d or e or f; key q rank 1; "
+                + "when * say x or y or z or w;");
+        Check.script(x, 1, "none m or n or o;");
+        CHECK.due(x, "200 sayings", x.face(0, 1, hi, 200), 200, 0);
+        ring(x, -1, -1);
+        CHECK.due(x, "and again", x.face(0, 1, hi, 200), 200, 0);
     }
 
     private static void ringOfMemory() {

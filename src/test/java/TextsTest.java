@@ -166,6 +166,8 @@ public final class TextsTest {
         bad("key a rank 1", 2, 12);
         bad("key 1 rank 1;", 2, 4);
         bad(";", 2, 0);
+        bad("*".repeat(600), 2, 0);
+        bad("key a rank 1;".concat("\n".repeat(586)).concat("*"), 2, 599);
         bad("*", 2, 0);
         bad("turn a b c;", 2, 9);
         bad("turn a;", 2, 6);
