@@ -72,7 +72,6 @@ public final class AskBack {
     private final Row saidWords = new Row();
     private final int[] saidTold = new int[TOLD];
     private final int[] gaps = new int[MOST_ITEMS];
-    private Script spare = new Script();
     private int tapeSize = 0;
     private int markCount = 0;
     private int gapCount = NONE;
@@ -177,14 +176,14 @@ public final class AskBack {
         if (!isScript(script) || n < 0 || n > tapeSize) {
             return refuse(IMPOSSIBLE);
         }
-        boolean good = reader.readScript(tape, n, spare);
+        boolean good = reader.readScript(tape, n);
         tapeSize = 0;
         if (!good) {
             return refuse(FAULTY);
         }
         Script old = book.scripts[script];
-        book.scripts[script] = spare;
-        spare = old;
+        book.scripts[script] = reader.script;
+        reader.script = old;
         book.states[script].refresh();
         return grant(book.scripts[script].ruleCount);
     }
@@ -801,6 +800,8 @@ public final class AskBack {
         private static final long[] NO_NAMES = {TURN, KEY_WORD, RANK, WHEN, SAY, KEEP, NONE_WORD, OR, GO};
 
         final Row line = new Row();
+        /** The script that is read; whoever takes it gives another one for it. */
+        Script script = new Script();
         int faultKind = NONE;
         int faultPlace = NONE;
         /** The text cut into tokens; behind the last one stands the end. */
@@ -812,7 +813,6 @@ public final class AskBack {
         private final int[] goTokens = new int[ANSWER_SLOTS];
         private final int[] goSlots = new int[ANSWER_SLOTS];
         private int goCount = 0;
-        private Script script = null;
         private int at = 0;
         private int gapCount = 0;
 
@@ -834,9 +834,8 @@ public final class AskBack {
             return true;
         }
 
-        boolean readScript(byte[] text, int length, Script into) {
+        boolean readScript(byte[] text, int length) {
             open(text, length);
-            script = into;
             script.clear();
             goCount = 0;
             boolean good = true;
@@ -1422,8 +1421,8 @@ public final class AskBack {
 
     /** A line as a script hears it: which keys are in it, in which order, and which rules fit. No state changes that. */
     private static final class Ear {
-        Script script = null;
-        Row line = null;
+        Script script;
+        Row line;
         int fitting = 0;
         int present = 0;
         final int[] order = new int[MOST_KEYS];
@@ -1432,6 +1431,11 @@ public final class AskBack {
         final int[] gaps = new int[MOST_RULES * MOST_ITEMS];
         private final int[] places = new int[MOST_KEYS];
         private final int[] starts = new int[MOST_ITEMS + 1];
+
+        Ear(Script blank, Row silence) {
+            script = blank;
+            line = silence;
+        }
 
         static int placeIn(int gap) {
             return gap >>> 4;
@@ -1496,6 +1500,7 @@ public final class AskBack {
 
         private int startsOf(long item, int next) {
             if (item == ANY_NUMBER) {
+                // it can start at any word up to the last one where the next item can
                 int all = next | next >>> 1;
                 all |= all >>> 2;
                 all |= all >>> 4;
@@ -1541,10 +1546,16 @@ public final class AskBack {
         final int[] told = new int[TOLD];
         int rulesOut = 0;
         int turnOut = NONE;
-        private Ear ear = null;
-        private Script script = null;
-        private State state = null;
+        private Ear ear;
+        private Script script;
+        private State state;
         private int fitting = 0;
+
+        Sayer(Ear first, State of) {
+            ear = first;
+            script = first.script;
+            state = of;
+        }
 
         void answer(Ear heard, State of, int[] order, int count) {
             ear = heard;
@@ -1841,7 +1852,7 @@ public final class AskBack {
 
     /** Says over and over, in states of its own, to find what was asked for. */
     private static final class Search {
-        final Sayer sayer = new Sayer();
+        final Sayer sayer;
         final Ear[] ears = new Ear[MOST_LINES];
         final int[] path = new int[MOST_LED];
         final int[] led = new int[MOST_LED];
@@ -1861,8 +1872,10 @@ public final class AskBack {
         private Past past = null;
 
         Search() {
+            Script blank = new Script();
+            Row silence = new Row();
             for (int i = 0; i < ears.length; i++) {
-                ears[i] = new Ear();
+                ears[i] = new Ear(blank, silence);
             }
             for (int i = 0; i < states.length; i++) {
                 states[i] = new State();
@@ -1870,6 +1883,7 @@ public final class AskBack {
             for (int i = 0; i < wanted.length; i++) {
                 wanted[i] = new Row();
             }
+            sayer = new Sayer(ears[0], states[0]);
         }
 
         void hold(Talk talk, int many) {
