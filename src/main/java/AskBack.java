@@ -1777,12 +1777,14 @@ public final class AskBack {
         }
     }
 
-    /** What two scripts face to face had ahead of each saying: the line and the states of both, laid in one row. */
+    /** What two scripts face to face had at each turn: the line and the states of both, laid in one row. */
     private static final class Past {
         private static final int STATE_SIZE = 2 + MOST_REMEMBERED * (MOST_WORDS + 1);
         private static final int MOMENT_SIZE = MOST_WORDS + 1 + 2 * STATE_SIZE;
-        private final long[] held = new long[MOST_TURNS_ABOUT * MOMENT_SIZE];
-        private final int[] ends = new int[MOST_TURNS_ABOUT + 1];
+        /** One ahead of each saying, and one behind the last. */
+        private static final int MOST_MOMENTS = MOST_TURNS_ABOUT + 1;
+        private final long[] held = new long[MOST_MOMENTS * MOMENT_SIZE];
+        private final int[] ends = new int[MOST_MOMENTS + 1];
         private int moments = 0;
         private int end = 0;
 
@@ -1792,7 +1794,7 @@ public final class AskBack {
         }
 
         void add(Row line, State one, State other) {
-            if (moments < MOST_TURNS_ABOUT) {
+            if (moments < MOST_MOMENTS) {
                 lay(one.turns);
                 lay(other.turns);
                 layRow(line);
@@ -1939,20 +1941,24 @@ public final class AskBack {
             }
             past.clear();
             heardLast.copy(line);
-            for (int done = 0; done < most; done++) {
-                past.add(heardLast, first, second);
-                int like = past.likeLatest();
-                if (like != NONE) {
-                    ringAhead = like;
-                    ringSize = done - like;
-                    return done;
-                }
-                boolean odd = done % 2 != 0;
-                ear.listen(odd ? other : one, heardLast);
-                sayer.answer(ear, odd ? second : first, ear.order, ear.orderCount);
+            past.add(heardLast, first, second);
+            for (int done = 1; done <= most && ringSize == NONE; done++) {
+                boolean byOther = done % 2 == 0;
+                ear.listen(byOther ? other : one, heardLast);
+                sayer.answer(ear, byOther ? second : first, ear.order, ear.orderCount);
                 heardLast.copy(sayer.words);
+                past.add(heardLast, first, second);
+                closeRing(past.likeLatest(), done);
             }
-            return most;
+            return ringSize == NONE ? most : ringAhead + ringSize;
+        }
+
+        /** A ring is there as soon as its sayings are done: behind the last one allowed, too. */
+        private void closeRing(int like, int done) {
+            if (like != NONE) {
+                ringAhead = like;
+                ringSize = done - like;
+            }
         }
 
         int firstBroke(Book book, int many) {

@@ -812,7 +812,7 @@ public final class Model {
         List<String> seen = new ArrayList<>();
         List<String> words = now.lines.get(line);
         ring = null;
-        for (int done = 0; done < most; done++) {
+        for (int done = 0; done <= most; done++) {
             String moment = done % 2 + "/" + words + states[0] + states[1];
             if (seen.contains(moment)) {
                 ring = new int[] {seen.indexOf(moment), done - seen.indexOf(moment)};

@@ -8,6 +8,7 @@ public final class SearchesTest {
         wrongLeads();
         rings();
         ringAtTheEnd();
+        ringOfAllSayings();
         ringBeyondTheEnd();
         ringOfMemory();
         couples();
@@ -118,6 +119,8 @@ public final class SearchesTest {
         ring(x, 1, 12);
         CHECK.due(x, "at most 12", x.face(0, 1, hi, 12), 12, 0);
         ring(x, -1, -1);
+        CHECK.due(x, "at most 13", x.face(0, 1, hi, 13), 13, 0);
+        ring(x, 1, 12);
         CHECK.due(x, "at most 1", x.face(0, 1, hi, 1), 1, 0);
         ring(x, -1, -1);
         Check.line(x, "y");
@@ -138,14 +141,38 @@ public final class SearchesTest {
         ring(x, 1, 4);
     }
 
-    /** When as many were said as may be, none is to say any more, so there is no ring yet. */
+    /** "At most so many times" bounds the sayings: a ring is there when its own are done, if no other may follow. */
     private static void ringAtTheEnd() {
         AskBack x = new AskBack();
         int hi = Check.line(x, "hi");
-        CHECK.due(x, "two empty ones, at most 3", x.face(0, 1, hi, 3), 3, 0);
+        int silence = Check.line(x, "");
+        CHECK.due(x, "two empty ones, at most 2", x.face(0, 1, hi, 2), 2, 0);
         ring(x, -1, -1);
+        CHECK.due(x, "two empty ones, at most 3", x.face(0, 1, hi, 3), 3, 0);
+        ring(x, 1, 2);
         CHECK.due(x, "two empty ones, at most 4", x.face(0, 1, hi, 4), 3, 0);
         ring(x, 1, 2);
+        CHECK.due(x, "from no words, at most 1", x.face(0, 0, silence, 1), 1, 0);
+        ring(x, -1, -1);
+        CHECK.due(x, "from no words, at most 2", x.face(0, 0, silence, 2), 2, 0);
+        ring(x, 0, 2);
+    }
+
+    /** Eight sayings go to words that never come again, then turns of 32 sayings against turns of 3: 192 sayings. */
+    private static void ringOfAllSayings() {
+        AskBack x = new AskBack();
+        StringBuilder chain = new StringBuilder();
+        for (char c = 's'; c < 'z'; c++) {
+            chain.append("key ").append(c).append(" rank 1; when * say ").append((char) (c + 1)).append(';');
+        }
+        Check.script(x, 0, chain + "none go p or a or b or c; key p rank 1; when * say go q or d or e or f; "
+                + "key q rank 1; when * say g or h;");
+        Check.script(x, 1, chain + "none k or l or m;");
+        int start = Check.line(x, "s");
+        CHECK.due(x, "at most 199", x.face(0, 1, start, 199), 199, 0);
+        ring(x, -1, -1);
+        CHECK.due(x, "at most 200", x.face(0, 1, start, 200), 200, 0);
+        ring(x, 8, 192);
     }
 
     /** Turns of 4, 16 and 64 sayings against turns of 3: 384 sayings till both are as they were. */
