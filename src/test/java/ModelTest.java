@@ -372,7 +372,13 @@ public final class ModelTest {
     }
 
     private void meeting(int script, int lines) throws Exception {
-        call("face", script, below(3), below(lines), odd(3) ? below(200) + 1 : below(20) + 1);
+        int other = below(3);
+        int line = below(lines);
+        long done = call("face", script, other, line, odd(3) ? below(200) + 1 : below(20) + 1);
+        call("ring", 0);
+        call("ring", 1);
+        // once more with just as many sayings as were done, so that a ring closes behind the last one
+        call("face", script, other, line, (int) done - (odd(3) ? 1 : 0));
         call("ring", 0);
         call("ring", 1);
     }
