@@ -573,16 +573,13 @@ public final class AskBack {
         return k == NONE ? row.size : row.at(k);
     }
 
-    /** A power of a fraction without a common divisor has none either. */
+    /** A power of a fraction without a common divisor has none either; halved four times, 0 by 16 is 0 by 1. */
     private void tellPower(int of, int times) {
         int over = of;
         int under = MOST_ODDS;
         for (int i = 0; i < 4 && over % 2 == 0; i++) {
             over /= 2;
             under /= 2;
-        }
-        if (of == 0) {
-            under = 1;
         }
         top = 1;
         bottom = 1;

@@ -2,12 +2,20 @@
 final class Check {
     private int wrong = 0;
     private int asked = 0;
+    private String sentence = "";
+
+    /** The sentence of the document that is held by what is asked from here on. */
+    void holds(Document document, String held) {
+        sentence = "";
+        due("the document says '" + held + "'", document.names(held), true);
+        sentence = " [" + held + "]";
+    }
 
     void due(String call, long got, long want) {
         asked++;
         if (got != want) {
             wrong++;
-            System.out.println(call + " answered " + got + ", due is " + want);
+            System.out.println(call + " answered " + got + ", due is " + want + sentence);
         }
     }
 
@@ -94,11 +102,14 @@ final class Check {
     }
 
     void says(AskBack x, int script, int line, String want) {
-        String got = said(x, x.say(script, line));
+        same("say(" + script + ", " + line + ")", said(x, x.say(script, line)), want);
+    }
+
+    void same(String what, String got, String want) {
         asked++;
         if (!got.equals(want)) {
             wrong++;
-            System.out.println("say(" + script + ", " + line + ") said '" + got + "', due is '" + want + "'");
+            System.out.println(what + " is '" + got + "', due is '" + want + "'" + sentence);
         }
     }
 }
