@@ -395,9 +395,9 @@ final class EdgesOfScripts extends Edges {
         holds("a turn from a NAME from which one is told already (at the NAME).");
         bad("turn a b; turn a b;", 3, 15);
         bad("turn a b; turn b a; turn b", 3, 25);
-        String ten = joined(11, i -> "turn " + letter(i) + " z;");
-        bad(ten + "turn k y;", 3, ten.length() + 5);
-        good(ten + "turn z z;", 0);
+        String elevenTurns = joined(11, i -> "turn " + letter(i) + " z;");
+        bad(elevenTurns + "turn k y;", 3, elevenTurns.length() + 5);
+        good(elevenTurns + "turn z z;", 0);
         good("turn a b; turn b a; turn c a; key a rank 1;", 0);
     }
 

@@ -294,18 +294,23 @@ final class EdgesOfSearches extends Edges {
         face(y, new int[] {1, 0, 0, 200}, 14, 12, 2);
     }
 
-    /** Both remember six lines of twelve words, and say twelve words each time; turns of 64 and of 3 go on beyond 200. */
+    /** Both remember six lines of twelve words and say twelve words each time; turns of 64 against turns of 3: 384 sayings. */
     private void mostSayings() {
-        String twelve = "b c d e f g h i j";
         String keeps = "keep a * say 1 a;".repeat(6);
         AskBack x = with("key a rank 1;" + keeps + "when * say go u or 1 or 1 or 1; key u rank 0; when * say go v or 1 or 1 or 1;"
-                + " key v rank 0; when * say 1 or 1 or 1 or 1;", "a " + twelve + " k l");
+                + " key v rank 0; when * say 1 or 1 or 1 or 1;", "a b c d e f g h i j k l");
         given(x, 1, "key a rank 1;" + keeps + "when * say 1 or 1 or 1;");
         face(x, new int[] {0, 1, 0, 200}, 200, -1, -1);
         face(x, new int[] {0, 1, 0, 199}, 199, -1, -1);
-        check.due("the longest words are the same", x.word(0, -1), 12);
         face(x, new int[] {1, 0, 0, 200}, 200, -1, -1);
         face(x, new int[] {1, 1, 0, 200}, 8, 2, 6);
+        // eight sayings ahead, then turns of 32 against turns of 3: the ring ends with the 200th saying
+        String chain = joined(7, i -> "key " + letter(18 + i) + " rank 1; when * say " + letter(19 + i) + ";");
+        AskBack y = with(chain + "none go p or a or b or c; key p rank 1; when * say go q or d or e or f; key q rank 1;"
+                + " when * say g or h;", "s");
+        given(y, 1, chain + "none k or l or m;");
+        face(y, new int[] {0, 1, 0, 200}, 200, 8, 192);
+        face(y, new int[] {0, 1, 0, 199}, 199, -1, -1);
     }
 
     private void faceCalls() {
@@ -346,6 +351,14 @@ final class EdgesOfSearches extends Edges {
             Check.fill(x, 0, line);
             check.due(x, "broke of line " + line, x.broke(0, 0, 1), broken[line] ? 0 : -1, 0);
         }
+        // neither the last of twelve words nor the last of one has a word behind it, whatever was said ahead
+        AskBack z = with("key a rank 1; when a say x n; key b rank 1; when b say m; key c rank 1; when c * say 1 m;", "a", "b",
+                "c x x x x x x x x x x x");
+        z.broken(Check.word("m"), Check.word("n"));
+        Check.fill(z, 0, 0, 1, 2);
+        check.due(z, "broke", z.broke(0, 0, 3), -1, 0);
+        z.talk(0, 0, 3);
+        check.due(z, "claim(2)", z.claim(2), -1, 0);
         holds("`int broken(long a, long b)`: A BROKEN couple more, of two WORDS as numbers: how many there are (1; 4).");
         for (long wrong : new long[] {0, -1, 27, Long.MIN_VALUE, Long.MAX_VALUE}) {
             check.refused(x, "no word comes first", x.broken(wrong, 1), 1);
@@ -539,7 +552,7 @@ final class EdgesOfSearches extends Edges {
         least(x, 2, 1, 4);
         Check.fill(x, 0, 1, 3);
         least(x, 2, 0, 0);
-        // two of four, of which rules 0 and 3 or rules 1 and 2 would do: 6 is less than 9
+        // rules 0 and 1 would do, and rules 1 and 2: 3 is less than 6
         given(x, 0, "key a rank 1; when * c a say p; when a say q; key c rank 1; when * say p; key b rank 1; when z say z;"
                 + " none n;");
         Check.fill(x, 0, 0, 2);
@@ -653,6 +666,14 @@ final class EdgesOfSearches extends Edges {
             check.due("ahead(0, b)", x.ahead(0, b), 120);
             check.due("ahead(b, 0)", x.ahead(b, 0), 0);
         }
+        // a key that is not in the line, though it was in one that was heard ahead, changes nothing
+        AskBack z = with("key a rank 1; when * say ka; key b rank 2; when * say kb;", "a b", "a");
+        Check.fill(z, 0, 0, 1);
+        z.talk(0, 0, 1);
+        check.due(z, "b ahead of a", z.orders(0), 1, 0);
+        Check.fill(z, 0, 1, 0);
+        z.talk(0, 0, 1);
+        check.due(z, "both orders", z.orders(0), 2, 0);
         // the first key's keeps alone
         AskBack y = with(joined(3, i -> "key " + letter(i) + " rank " + i + "; keep * say k" + letter(i) + ";"), "a b c", "a b");
         Check.fill(y, 0, 0, 1);

@@ -23,10 +23,11 @@ final class EdgesOfStatus extends Edges {
         noneSuch();
         unlikeAndFaults();
         without();
-        changesByAnswers();
+        onlyWhatIsPromised();
         marks();
         backs();
         scriptsBack();
+        fullBack();
         lastCall();
     }
 
@@ -293,7 +294,7 @@ final class EdgesOfStatus extends Edges {
         unchanged(name, EdgesOfStatus::furnished, x, Arrays.asList(but));
     }
 
-    private void changesByAnswers() {
+    private void onlyWhatIsPromised() {
         holds("No call but say(), begin(), script(), back() changes the state of a SCRIPT.");
         takes("tray", x -> asNumber(x.tray(0, 1, 3)), "trays");
         takes("write", x -> asNumber(x.write(0, 0, 2)), "trays");
@@ -406,6 +407,37 @@ final class EdgesOfStatus extends Edges {
         check.due("the other couple is gone", y.broke(0, 0, 1), -1);
     }
 
+    /** As much of all as there can be comes back: 12 keys, 24 rules, 12 turns, 6 remembered, 16 lines, 12 couples. */
+    private void fullBack() {
+        String text = joined(12, i -> "turn " + letter(i) + " z;key " + letter(i) + " rank 9;")
+                + joined(24, i -> i < 12 ? "keep l say k;" : i == 12 ? "when l say s or t;" : "when l say s;");
+        AskBack x = with(text);
+        for (int i = 0; i < 16; i++) {
+            heard(x, i < 15 ? "l" : "q r s");
+        }
+        for (int i = 0; i < 12; i++) {
+            x.broken(1, 1 + i);
+        }
+        says(x, 0, "s", 1, 11, 12, 0, 0);
+        x.mark();
+        given(x, 0, "none n;");
+        says(x, 0, "n", 4, -1, -1, 0, 0);
+        x.back();
+        remembers(x, "k", "k", "k", "k", "k", "k");
+        says(x, 0, "t", 1, 11, 12, 1, 0);
+        says(x, 15, "k", 3, -1, -1, -1, 0);
+        check.due("the last turn", x.turned(0, 12), 26);
+        check.due("the last rule's key", x.rule(0, 23, 0), 11);
+        check.due("the last line", x.word(15, 2), Check.word("s"));
+        check.due("the couples", x.many(1), 12);
+        // a search goes on from six remembered, too
+        AskBack y = with("key l rank 1;" + "keep l say k;".repeat(6) + "when l say s;", "l", "q", "k", "");
+        Check.fill(y, 0, 0, 1);
+        check.due(y, "lead to k", y.lead(0, 0, 2, 2), 2, 0);
+        check.due(y, "lead to no words", y.lead(0, 0, 2, 3), 1, 0);
+        check.due(y, "by q alone", y.led(0), 1, 0);
+    }
+
     /** Scripts of all sizes come back whole, whatever stood in their places. */
     private void scriptsBack() {
         String first = "turn b y; turn c z; key a rank 5; keep * say of 1; when * say 1 a or go c; key b rank 7; when b ? say so 1;"
@@ -414,7 +446,7 @@ final class EdgesOfStatus extends Edges {
         String third = "turn q r; turn r s; turn s t; key d rank 1; key c rank 9; keep c say c; when c * say c 1 or c or go a;"
                 + " key a rank 9; when * say a; when a say b; none z;";
         String[] texts = {first, second, third, ""};
-        String[] lines = {"a b", "b c", "a", "c", "q", "c q r s", "b", "d a b"};
+        String[] lines = {"a b", "b c", "a", "c", "q", "c q r s", "b", "d a b", "c a", "a c b"};
         for (String kept : texts) {
             for (String put : texts) {
                 AskBack x = with(kept, lines);
