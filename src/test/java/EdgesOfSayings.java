@@ -1,3 +1,6 @@
+import java.util.ArrayList;
+import java.util.List;
+
 /** Fits and sayings, behind ==== 3, and promises 17 to 24, at their edges. */
 final class EdgesOfSayings extends Edges {
     EdgesOfSayings(Check check, Document document) {
@@ -9,6 +12,7 @@ final class EdgesOfSayings extends Edges {
         allWords();
         items();
         fewest();
+        allShortOnes();
         fits();
         gaps();
         ranks();
@@ -109,6 +113,63 @@ final class EdgesOfSayings extends Edges {
         took("* b * c * d *", "b d c b d c d", 0, 0, 1, 1, 3, 1, 5, 2);
         took("********", "a b c d e f g h i j k l", 0, 0, 0, 0, 0, 0, 0, 0, 0, 0, 0, 0, 0, 0, 0, 12);
         took("* l *", "a b c d e f g h i j k l", 0, 11, 12, 0);
+    }
+
+    /** Every pattern of up to four items on every line of up to four words, of the words a and b. */
+    private void allShortOnes() {
+        List<String> patterns = rows("a*?");
+        List<String> lines = rows("ab");
+        for (int p = 0; p < patterns.size(); p += 20) {
+            List<String> some = patterns.subList(p, Math.min(p + 20, patterns.size()));
+            String text = "key k rank 1;" + joined(some.size(), i -> "when " + spaced(some.get(i)) + "say k;");
+            for (String line : lines) {
+                AskBack x = with(text, spaced(line));
+                for (int i = 0; i < some.size(); i++) {
+                    List<Integer> want = firstWay(some.get(i), line, 0);
+                    check.due(some.get(i) + " on " + line, x.fit(0, i, 0), want == null ? 0 : 1);
+                    for (int k = 0; want != null && k < want.size(); k++) {
+                        check.due(some.get(i) + " on " + line + ", gap " + k, x.gap(1 + k / 2, k % 2), want.get(k));
+                    }
+                }
+            }
+        }
+        fits("???*b", "x x b", false);
+        fits("*?*?*?*b", "x x x b", true);
+        fits("*?*?*?*b", "x x b", false);
+    }
+
+    /** All rows of up to four signs; of none, too, where a line is meant. */
+    private static List<String> rows(String signs) {
+        List<String> all = new ArrayList<>(List.of(""));
+        for (int i = 0; all.get(i).length() < 4; i++) {
+            for (char sign : signs.toCharArray()) {
+                all.add(all.get(i) + sign);
+            }
+        }
+        return signs.contains("*") ? all.subList(1, all.size()) : all;
+    }
+
+    private static String spaced(String row) {
+        return row.replaceAll("(.)", "$1 ");
+    }
+
+    /** Places and sizes of the gaps, each * tried from none on; null if no way fits. */
+    private static List<Integer> firstWay(String items, String line, int at) {
+        if (items.isEmpty()) {
+            return at == line.length() ? List.of() : null;
+        }
+        char item = items.charAt(0);
+        int most = item == '*' ? line.length() - at : 1;
+        for (int took = item == '*' ? 0 : 1; took <= most && at + took <= line.length(); took++) {
+            boolean fits = item == '*' || item == '?' || line.charAt(at) == item;
+            List<Integer> rest = fits ? firstWay(items.substring(1), line, at + took) : null;
+            if (rest != null) {
+                List<Integer> all = new ArrayList<>(item == 'a' ? List.of() : List.of(at, took));
+                all.addAll(rest);
+                return all;
+            }
+        }
+        return null;
     }
 
     private void fits() {

@@ -90,6 +90,12 @@ final class EdgesOfStatus extends Edges {
     /** The call is refused, and all that can be seen is as if it had not been. */
     private void refuse(Supplier<AskBack> made, int status, String name, Call call) {
         AskBack x = made.get();
+        // another status stands there, so that the call must tell its own
+        if (status == 1) {
+            x.many(0);
+        } else {
+            x.begin(9);
+        }
         long got = call.on(x);
         check.due("status() behind " + name, x.status(), status);
         check.due(name, got, name.matches("(tray|write|pour|begin|odds|leave).*") ? 0 : -1);
@@ -419,10 +425,19 @@ final class EdgesOfStatus extends Edges {
             x.broken(1, 1 + i);
         }
         says(x, 0, "s", 1, 11, 12, 0, 0);
+        given(x, 2, "none n or m or o or go a; key a rank 1; when * say p;");
+        given(x, 1, "none n or m or o or p q;");
         x.mark();
         given(x, 0, "none n;");
+        given(x, 1, "none a a a or b or c or d e f;");
+        given(x, 1, "none a a a or b or c or d e f;");
+        given(x, 2, "none q;");
         says(x, 0, "n", 4, -1, -1, 0, 0);
         x.back();
+        for (String want : new String[] {"n", "m", "o", "p", "n"}) {
+            check.says(x, 1, 15, want.equals("p") ? "p q" : want);
+            check.says(x, 2, 15, want);
+        }
         remembers(x, "k", "k", "k", "k", "k", "k");
         says(x, 0, "t", 1, 11, 12, 1, 0);
         says(x, 15, "k", 3, -1, -1, -1, 0);
